@@ -144,8 +144,9 @@ public final class CartFellows {
 
     public int told(int call, int cart, int kind, int weight, int yards, int minute, int wait, boolean turn) {
         boolean known = isIn(call, 0, CALLS - 1) && isIn(cart, 0, CARTS - 1) && isIn(kind, 0, laws.kinds - 1);
-        boolean can = isIn(weight, 1, GREATEST) && isIn(yards, 0, GREATEST) && isIn(minute, 0, GREATEST) && isIn(wait, 0, GREATEST);
-        if (!known || !can || acts.count >= ACTS) {
+        boolean can = isIn(weight, 1, GREATEST) && isIn(yards, 0, GREATEST);
+        boolean inTime = isIn(minute, 0, GREATEST) && isIn(wait, 0, GREATEST);
+        if (!known || !can || !inTime || acts.count >= ACTS) {
             return NONE;
         }
         Carriage told = acts.next();
@@ -170,7 +171,7 @@ public final class CartFellows {
     }
 
     public int annul(int act) {
-        return acts.annul(act);
+        return acts.strike(act);
     }
 
     public boolean as(int act) {
@@ -756,37 +757,35 @@ public final class CartFellows {
             while (at < length && (text[at] == 10 || text[at] == 32)) {
                 at++;
             }
-            boolean glued = isWhole && at == before;
+            boolean isGlued = isWhole && at == before;
+            boolean isWord = at < length && isOf(true, text[at]);
+            isWhole = isWord || at < length && isOf(false, text[at]);
             start = at;
             place = at;
-            isWhole = false;
+            value = 0;
             if (at >= length) {
                 sort = END;
-            } else if (isLetter(text[at]) || isDigit(text[at])) {
-                isWhole = true;
-                sort = glued ? BAD : wholeSort();
-            } else {
+            } else if (!isWhole) {
                 sort = SIGNS.indexOf((char) (text[at] & 255)) >= 0 ? text[at] : BAD;
                 at++;
-            }
-        }
-
-        /** Goes over a word or a number whole. */
-        private int wholeSort() {
-            boolean isWord = isLetter(text[start]);
-            int most = isWord ? LETTERS : DIGITS;
-            value = 0;
-            while (at < length && (isWord ? isLetter(text[at]) : isDigit(text[at]))) {
-                if (at - start >= most) {
-                    place = at;
-                    return BAD;
+            } else {
+                int end = start + (isWord ? LETTERS : DIGITS);
+                while (at < length && at < end && isOf(isWord, text[at])) {
+                    value = value * 10 + text[at] - '0';
+                    at++;
                 }
-                value = value * 10 + text[at] - '0';
-                at++;
+                boolean isTooLong = at < length && isOf(isWord, text[at]);
+                place = isTooLong && !isGlued ? at : start;
+                sort = isTooLong || isGlued ? BAD : isWord ? wordSort() : NUMBER;
             }
-            return isWord ? wordSort() : NUMBER;
         }
 
+        /** Whether a byte may stand in a word, or in a number. */
+        private static boolean isOf(boolean isWord, byte sign) {
+            return isWord ? sign >= 'a' && sign <= 'z' : sign >= '0' && sign <= '9';
+        }
+
+        /** The place in OWN of the word that was gone over, or NAME. */
         private int wordSort() {
             int word = 0;
             int same = 0;
@@ -806,14 +805,6 @@ public final class CartFellows {
                 }
             }
             return NAME;
-        }
-
-        private static boolean isLetter(byte sign) {
-            return sign >= 'a' && sign <= 'z';
-        }
-
-        private static boolean isDigit(byte sign) {
-            return sign >= '0' && sign <= '9';
         }
 
         // what must stand in the text
@@ -852,20 +843,46 @@ public final class CartFellows {
         }
 
         private boolean readStatement() {
+            int word = sort;
+            if (!hasRoom()) {
+                return false;
+            }
+            next();
+            switch (word) {
+                case KIND:
+                    return readKind();
+                case SHUT:
+                    return readShut();
+                case WORK:
+                    return readWork();
+                case LOAD:
+                    return readLoad();
+                case BAR:
+                    return readBar();
+                default:
+                    break;
+            }
+            boolean good = word == FINE ? beginFine() : beginRate();
+            good = good && readSum(0) && take(FOR) && readTest(0);
+            laws.emit(-1 - ';');
+            return good;
+        }
+
+        /** Whether a statement may begin with the word that stands here. */
+        private boolean hasRoom() {
             switch (sort) {
                 case KIND:
-                    return laws.kinds < KINDS ? readKind() : wrong(5, start);
+                    return laws.kinds < KINDS || wrong(5, start);
                 case FINE:
-                    return laws.fines < FINES ? readFine() : wrong(5, start);
+                    return laws.fines < FINES || wrong(5, start);
                 case SHUT: case RATE: case WORK: case LOAD: case BAR:
-                    return laws.others < OTHERS ? readOther() : wrong(5, start);
+                    return laws.others < OTHERS || wrong(5, start);
                 default:
                     return wrong(1, place);
             }
         }
 
         private boolean readKind() {
-            next();
             if (!takeNewName(laws.kinds) || !take(MOST) || !takeNumber(1, 999)) {
                 return false;
             }
@@ -874,38 +891,38 @@ public final class CartFellows {
             return true;
         }
 
-        private boolean readFine() {
-            next();
+        private boolean beginFine() {
             if (!takeNewName(KINDS + laws.fines) || !take(IS)) {
                 return false;
             }
             laws.fineCode[laws.fines] = laws.codeLength;
             laws.fines++;
-            return readRule();
+            return true;
         }
 
-        private boolean readOther() {
-            int word = sort;
+        private boolean beginRate() {
+            laws.rateCode[laws.rates] = laws.codeLength;
+            laws.rates++;
             laws.others++;
-            next();
-            switch (word) {
-                case SHUT:
-                    return readShut();
-                case RATE:
-                    laws.rateCode[laws.rates] = laws.codeLength;
-                    laws.rates++;
-                    return readRule();
-                case WORK:
-                    return readWork();
-                case LOAD:
-                    boolean loads = takeNumber(0, 60);
-                    laws.load = number;
-                    return loads;
-                default:
-                    boolean bars = takeNumber(0, 99999);
-                    laws.bar = number;
-                    return bars;
+            return true;
+        }
+
+        private boolean readLoad() {
+            if (!takeNumber(0, 60)) {
+                return false;
             }
+            laws.load = number;
+            laws.others++;
+            return true;
+        }
+
+        private boolean readBar() {
+            if (!takeNumber(0, 99999)) {
+                return false;
+            }
+            laws.bar = number;
+            laws.others++;
+            return true;
         }
 
         private boolean readShut() {
@@ -928,6 +945,7 @@ public final class CartFellows {
                 return false;
             }
             laws.addShut(from, to, begin, number);
+            laws.others++;
             return true;
         }
 
@@ -940,14 +958,7 @@ public final class CartFellows {
                 return false;
             }
             laws.rest = number;
-            return true;
-        }
-
-        private boolean readRule() {
-            if (!readSum(0) || !take(FOR) || !readTest(0)) {
-                return false;
-            }
-            laws.emit(-1 - ';');
+            laws.others++;
             return true;
         }
 
@@ -1002,8 +1013,19 @@ public final class CartFellows {
                     next();
                     return readKindName();
                 default:
-                    return readComparison(open);
+                    break;
             }
+            if (!readSum(open)) {
+                return false;
+            }
+            int sign = sort;
+            if (sign != '<' && sign != '>' && sign != '=') {
+                return wrong(1, place);
+            }
+            next();
+            boolean good = readSum(open);
+            laws.emit(-1 - sign);
+            return good;
         }
 
         private boolean readKindName() {
@@ -1017,20 +1039,6 @@ public final class CartFellows {
             laws.emit(-1 - (IS_KIND + kind));
             next();
             return true;
-        }
-
-        private boolean readComparison(int open) {
-            if (!readSum(open)) {
-                return false;
-            }
-            int sign = sort;
-            if (sign != '<' && sign != '>' && sign != '=') {
-                return wrong(1, place);
-            }
-            next();
-            boolean good = readSum(open);
-            laws.emit(-1 - sign);
-            return good;
         }
 
         private boolean readSum(int open) {
@@ -1166,7 +1174,7 @@ public final class CartFellows {
             return act <= at && (voidBy[act] == 0 || voidBy[act] > at);
         }
 
-        int annul(int act) {
+        int strike(int act) {
             if (count >= ACTS || !isIn(act, 1, count) || sorts[act] == VOID || voidBy[act] != 0) {
                 return NONE;
             }
@@ -1312,9 +1320,9 @@ public final class CartFellows {
             return calls - 1;
         }
 
-        /** How many calls have come by a minute. */
-        int countBegun(int minute) {
-            int begun = 0;
+        /** How many calls have come by a minute, if so many had ahead of it. */
+        int countBegun(int minute, int ahead) {
+            int begun = ahead;
             while (begun < calls && minutes[order[begun]] <= minute) {
                 begun++;
             }
@@ -1424,7 +1432,7 @@ public final class CartFellows {
             int begun = 0;
             for (int minute = 0; minute < DAY; minute++) {
                 unloadUpTo(minute);
-                int nowBegun = fleet.countBegun(minute);
+                int nowBegun = fleet.countBegun(minute, begun);
                 boolean isNew = comeBackUpTo(minute) || nowBegun > begun;
                 begun = nowBegun;
                 if (isNew) {
@@ -1739,7 +1747,7 @@ public final class CartFellows {
                 if (Integer.bitCount(set) != n) {
                     continue;
                 }
-                int sum = sumFor(set, fleet.calls);
+                int sum = sumFor(set, fleet.calls, least);
                 if (sum < least || sum == least && best != NONE && isAhead(set, best)) {
                     least = sum;
                     best = set;
@@ -1754,18 +1762,23 @@ public final class CartFellows {
 
         private void measure(City city, Laws laws, Fleet fleet) {
             for (int call = 0; call < fleet.calls; call++) {
+                int minute = fleet.minutes[call];
+                int from = fleet.froms[call];
                 for (int place = 0; place < PLACES; place++) {
-                    way.search(city, laws, place, fleet.minutes[call]);
-                    int there = way.reached[fleet.froms[call]];
-                    lasts[call * PLACES + place] = there < NEVER ? there - fleet.minutes[call] : NEVER;
+                    int row = call * PLACES + place;
+                    lasts[row] = NEVER;
+                    if (city.isLinked(place, from)) {
+                        way.search(city, laws, place, minute);
+                        lasts[row] = way.reached[from] - minute;
+                    }
                 }
             }
         }
 
-        /** The sum over the calls from the nearest place of a set; NEVER if some call is reached from none. */
-        private int sumFor(int set, int calls) {
+        /** The sum over the calls from the nearest place of a set, or more than the least so far; NEVER if one is reached from none. */
+        private int sumFor(int set, int calls, int least) {
             int sum = 0;
-            for (int call = 0; call < calls; call++) {
+            for (int call = 0; call < calls && sum <= least; call++) {
                 int nearest = NEVER;
                 for (int place = 0; place < PLACES; place++) {
                     if ((set >> place & 1) == 1) {
