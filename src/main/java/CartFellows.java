@@ -468,7 +468,7 @@ public final class CartFellows {
         int yardsTo(City city, int to) {
             int sum = 0;
             int place = to;
-            for (int step = 0; step < PLACES && last[place] != NONE; step++) {
+            for (int step = 0; step < PLACES && place != NONE && last[place] != NONE; step++) {
                 sum += city.yards[last[place]];
                 place = city.across(last[place], place);
             }
@@ -1577,7 +1577,7 @@ public final class CartFellows {
         /** Lets the way that was searched last wear its streets. */
         private void wearOut(Wagon wagon, int to, int each) {
             int place = to;
-            for (int step = 0; step < PLACES && way.last[place] != NONE; step++) {
+            for (int step = 0; step < PLACES && place != NONE && way.last[place] != NONE; step++) {
                 int street = way.last[place];
                 int wear = city.yards[street] * each;
                 streetWear[street] += wear;
