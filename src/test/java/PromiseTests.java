@@ -162,7 +162,7 @@ public final class PromiseTests {
 
     // promise 7
     private static void names() {
-        CartFellows x = Checks.with("kind az most 5;kind abcdefgh most 5;fine q is 1 for all;");
+        CartFellows x = Checks.with("kind az most 5;kind abcdefgh most 5;fine q is 1 for all;fine rs is 1 for all;");
         due("7 a", x.name(false, 0, 0), 'a');
         due("7 z", x.name(false, 0, 1), 'z');
         due("7 behind", x.name(false, 0, 2), NONE);
@@ -172,7 +172,10 @@ public final class PromiseTests {
         due("7 no kind", x.name(false, 2, 0), NONE);
         due("7 no kind", x.name(false, -1, 0), NONE);
         due("7 fine", x.name(true, 0, 0), 'q');
-        due("7 no fine", x.name(true, 1, 0), NONE);
+        due("7 second fine", x.name(true, 1, 0), 'r');
+        due("7 second fine", x.name(true, 1, 1), 's');
+        due("7 no fine", x.name(true, 2, 0), NONE);
+        due("7 no fine", x.name(true, -1, 0), NONE);
     }
 
     // promise 8
@@ -238,7 +241,7 @@ public final class PromiseTests {
             due("10 can't be", x.told(w[0], w[1], w[2], w[3], w[4], w[5], w[6], true), NONE);
         }
         due("10 least", x.told(0, 0, 0, 1, 0, 0, 0, false), 1);
-        due("10 most", x.told(39, 15, 0, 9999, 9999, 9999, 9999, true), 2);
+        due("10 most", x.told(0, 15, 0, 9999, 9999, 9999, 9999, true), 2);
         for (int i = 3; i <= 200; i++) {
             due("10 told", x.told(0, 0, 0, 1, 0, 0, 0, false), i);
         }
@@ -246,6 +249,7 @@ public final class PromiseTests {
         due("11 a 201st", x.witness(1, true), NONE);
         due("12 a 201st", x.appeal(1, 0), NONE);
         due("13 a 201st", x.annul(1), NONE);
+        due("13 it is known all the same", x.quarrels(), 1);
     }
 
     // promises 11, 12, 13
@@ -431,6 +435,9 @@ public final class PromiseTests {
         x.told(7, 1, 0, 1, 0, 0, 0, true);
         due("19 one cart", x.quarrels(), 0);
         due("20 no quarrel", x.right(7), 0);
+        x.as(0);
+        due("19 nothing known", x.quarrels(), 0);
+        x.as(NONE);
         x.told(7, 2, 0, 1, 0, 0, 0, true);
         due("19 two carts", x.quarrels(), 1);
         due("20 the first", x.right(7), 1);
@@ -450,6 +457,9 @@ public final class PromiseTests {
         x.witness(3, false);
         x.witness(3, false);
         due("20 below 0", x.right(7), 1);
+        x.told(7, 5, 0, 1, 0, 0, 0, true);
+        due("20 the last act", x.right(7), x.all(4));
+        x.annul(x.all(4));
         x.told(39, 1, 0, 1, 0, 0, 0, true);
         x.told(39, 2, 0, 1, 0, 0, 0, true);
         due("19 two quarrels", x.quarrels(), 2);
@@ -577,6 +587,11 @@ public final class PromiseTests {
         due("25 again, with the new call", x.run(true), 2);
         due("25 licence", x.taken(2, 0), 0);
         due("29 the new street", x.wear(3), 0);
+        Checks.laws(x, "kind a most 30;");
+        x.cart(0, 1);
+        x.run(true);
+        due("26 of the run ahead", x.taken(0, 0), NONE);
+        due("27 of the run ahead", x.cartOf(1, 1), NONE);
     }
 
     // promise 25: TURNS
