@@ -91,13 +91,15 @@ public final class CartFellows {
     }
 
     public int laws() {
-        if (!reader.read(tape, tapeLength, spare)) {
+        boolean isGood = reader.read(tape, tapeLength, spare);
+        // "all stays" with a fault is said of all else: the tape goes in both cases
+        tapeLength = 0;
+        if (!isGood) {
             return NONE;
         }
         Laws old = laws;
         laws = spare;
         spare = old;
-        tapeLength = 0;
         acts.clear();
         knownAt = NONE;
         fleet.clear();

@@ -11,6 +11,7 @@ public final class PromiseTests {
         tape();
         streets();
         laws();
+        tapeBehindLaws();
         names();
         shut();
         drive();
@@ -113,6 +114,32 @@ public final class PromiseTests {
         due("4 both ways", x.drive(11, 0, 0, 0), 1);
     }
 
+    // promises 2, 3, 5: the tape goes with a fault as it does without one
+    private static void tapeBehindLaws() {
+        CartFellows x = Checks.with("kind a most 5;bar 3;");
+        x.told(1, 2, 0, 5, 5, 5, 5, true);
+        due("5 fault", Checks.laws(x, "bar 3; x"), -1);
+        fails("5 the tape goes with a fault: end", x.end(1));
+        holds("5 the tape goes with a fault: end 0", x.end(0));
+        due("5 the tape goes with a fault: feed", x.feed(0, 0, 0, 0, 0), 20);
+        due("5 zeros are no by-laws", x.laws(), -1);
+        due("6 the fault is of the latest", x.fault(1), 0);
+        for (int i = 1; i <= 50; i++) {
+            due("5 a tape anew", x.feed(0, 0, 0, 0, 0), 20 * i);
+        }
+        due("5 a full tape at fault", x.laws(), -1);
+        due("5 all stays", x.all(4) * 10 + x.all(1), 11);
+        // "bar 7;" and blanks: read alone, not behind what was at fault
+        due("5 feed behind a fault", x.feed(0x62617220, 0x373b2020, 0x20202020, 0x20202020, 0x20202020), 20);
+        due("5 by-laws behind a fault", x.laws(), 1);
+        due("6 no fault any more", x.fault(0), 0);
+        due("5 acts go", x.all(4), 0);
+        due("5 fault again", Checks.laws(x, "bar"), -1);
+        due("5 the empty tape behind a fault", x.laws(), 0);
+        due("6 the empty tape has none", x.fault(1), NONE);
+        due("5 and its by-laws hold", x.all(3), 0);
+    }
+
     // promises 5, 6 (LawTests has the faults)
     private static void laws() {
         CartFellows x = new CartFellows();
@@ -142,7 +169,8 @@ public final class PromiseTests {
         due("5 all stays: as", x.all(5), 0);
         due("5 all stays: carts", x.all(7), 1);
         due("5 all stays: run", x.taken(0, 0), 0);
-        due("5 all stays: the tape", x.feed(0, 0, 0, 0, 0), 28);
+        due("5 all stays: calls", x.all(8), 1);
+        due("5 all stays: bar", x.all(3), 2);
         due("5 other laws", Checks.laws(x, "kind b most 7;bar 3;"), 2);
         due("6 no fault", x.fault(0), 0);
         due("6 no place", x.fault(1), NONE);
