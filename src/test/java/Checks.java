@@ -2,15 +2,33 @@
 final class Checks {
     private static int wrong = 0;
     private static int asked = 0;
+    private static String sentence = "";
+    private static int sentences = 0;
+    private static int askedBefore = 0;
 
     private Checks() {
+    }
+
+    /** From here on answers are due by a sentence of the document, told with each that is wrong. */
+    static void by(String words) {
+        endSentence();
+        sentence = "[" + words + "] ";
+        sentences++;
+    }
+
+    private static void endSentence() {
+        if (sentences > 0 && asked == askedBefore) {
+            wrong++;
+            System.out.println(sentence + "has no answer of its own");
+        }
+        askedBefore = asked;
     }
 
     static void due(String what, long got, long want) {
         asked++;
         if (got != want) {
             wrong++;
-            System.out.println(what + " answered " + got + ", due is " + want);
+            System.out.println(sentence + what + " answered " + got + ", due is " + want);
         }
     }
 
@@ -53,7 +71,9 @@ final class Checks {
     }
 
     static void close(String tests) {
-        System.out.println(tests + ": " + asked + " answers, " + wrong + " wrong");
+        endSentence();
+        String told = sentences > 0 ? sentences + " sentences, " : "";
+        System.out.println(tests + ": " + told + asked + " answers, " + wrong + " wrong");
         if (wrong != 0 || asked == 0) {
             System.exit(1);
         }
