@@ -175,6 +175,11 @@ public final class BookEdgeTests {
             due("none is void", x.fine(1, 0), 1);
             due("none is appealed", x.fines(1), last < 2 ? 100 : 99);
             due("the first is right", x.right(0), last == 1 ? 199 : 1);
+            if (last == 0) {
+                due("a fine of the 200th", x.fine(200, 0), 1);
+                due("no other fine of the 200th", x.fine(200, 1), 0);
+                due("the rate of the 200th", x.rate(200), 0);
+            }
             Checks.holds("as at the 200th", x.as(200));
             Checks.fails("as at a 201st", x.as(201));
         }
@@ -616,6 +621,8 @@ public final class BookEdgeTests {
         x.witness(2, false);
         x.witness(2, false);
         due("more against the second", x.right(5), 1);
+        tell(x, 5, 2, 0);
+        due("none against the last act", x.right(5), 6);
     }
 
     private static void toldFirst() {

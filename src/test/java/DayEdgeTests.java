@@ -367,6 +367,11 @@ public final class DayEdgeTests {
         callAt(x, 0, 40, 50);
         x.run(true);
         loadedAt(x, 5, 45, 55);
+        x = pair("work 10 rest 30;");
+        x.cart(0, 1);
+        callAt(x, 0, 40, 50, 51);
+        x.run(true);
+        loadedAt(x, 5, 45, 85, 125);
         x = pair("work 11 rest 30;");
         x.cart(0, 1);
         callAt(x, 0, 1000, 1010, 1011);
@@ -381,6 +386,17 @@ public final class DayEdgeTests {
         callAt(x, 0, 0, 0, 0);
         due("all", x.run(true), 4);
         loadedAt(x, 5, 15, 25, 35);
+        // a minute's work alone
+        x = Checks.with("kind a most 99;load 0;work 1 rest 0;");
+        x.street(0, 1, 1, 1);
+        x.stand(0);
+        x.stand(1);
+        x.cart(0, 1);
+        for (int call = 0; call < 6; call++) {
+            x.call(0, call % 2, 1 - call % 2, 0, 1);
+        }
+        due("all", x.run(true), 6);
+        loadedAt(x, 0, 1, 2, 3, 4, 5);
     }
 
     private static void workAddedUp() {
@@ -407,6 +423,15 @@ public final class DayEdgeTests {
         x.call(900, 1, 2, 0, 10);
         x.call(900, 1, 2, 0, 10);
         due("48 are not below 48", x.run(true), 2);
+        for (int round = 0; round < 3; round++) {
+            x = pair("work 10 rest 600;");
+            x.cart(0, 1);
+            callAt(x, 7, 8);
+            for (int run = 0; run <= round; run++) {
+                due("in each run anew", x.run(run % 2 == 0), 2);
+                loadedAt(x, 12, 622);
+            }
+        }
     }
 
     // ---- Term IV: minute by minute

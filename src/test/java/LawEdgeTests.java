@@ -57,6 +57,8 @@ public final class LawEdgeTests {
         statements();
         faultLeavesAll();
         whatGoes();
+        noneOfThoseAhead();
+        eachAsTheFirst();
         whatStays();
         tapeGoes();
         faultOfLatest();
@@ -460,6 +462,15 @@ public final class LawEdgeTests {
         test("0>0-1", true);
         test("1+1=2*1", true);
         test("(wait)=(wait)", true);
+        String[] wrong = {"wait<44", "wait>44", "wait=43"};
+        for (String fact : wrong) {
+            test(fact + " and all", false);
+            test("all and " + fact, false);
+            test(fact + " or all", true);
+            test(fact + " or not all", false);
+            test("not " + fact, true);
+            test("not not " + fact, false);
+        }
         at(1, "rate 1 for wait ^;");
         at(1, "rate 1 for wait<^=5;");
         at(1, "rate 1 for 1<2^<3;");
@@ -752,6 +763,11 @@ public final class LawEdgeTests {
         }
         due("all of it was cut", opens.length(), text.length() - 1);
         good(text, 7);
+        for (String word : OWN) {
+            boolean begins = "kind fine shut rate work load bar ".contains(word + " ");
+            bad(repeat(" ", 1000 - word.length()) + word, 1, begins ? 1000 : 1000 - word.length());
+            bad(repeat(" ", 1001 - word.length()) + word.substring(0, word.length() - 1), 1, 1001 - word.length());
+        }
         bad("kind", 1, 4);
         bad("kind \n ", 1, 7);
         bad("bar 5" + repeat(" ", 995), 1, 1000);
@@ -896,6 +912,14 @@ public final class LawEdgeTests {
         return x;
     }
 
+    private static CartFellows book(int acts) {
+        CartFellows x = Checks.with("kind a most 50;fine f is wait for all;");
+        for (int act = 1; act <= acts; act++) {
+            x.told(0, act % 2, 0, 5, 5, 5, 7, true);
+        }
+        return x;
+    }
+
     private static void faultLeavesAll() {
         by("5: -1 with a FAULT (all stays)");
         String[] texts = {"kind b most 7;x", "kind b most 5;kind b most 5;", "rate 1 for is b;", "bar 5;load 61;",
@@ -977,6 +1001,18 @@ public final class LawEdgeTests {
         due("the first act", x.told(0, 2, 0, 5, 5, 5, 7, true), 1);
         due("as() is NONE", x.all(5), 1);
         due("as() is NONE", x.fines(2), 7);
+        x = book(8);
+        for (int act = 1; act <= 4; act++) {
+            x.annul(act);
+        }
+        Checks.laws(x, "kind a most 50;fine f is wait for all;");
+        due("the first act", x.told(0, 2, 0, 5, 5, 5, 7, true), 1);
+        due("it is not void", x.fines(2), 7);
+        due("another", x.told(0, 3, 0, 5, 5, 5, 7, true), 2);
+        due("a quarrel", x.right(0), 1);
+        due("a witness", x.witness(2, true), 3);
+        due("it is not void", x.right(0), 2);
+        due("it can be void", x.annul(1), 4);
         x = busy();
         Checks.laws(x, "kind b most 50;");
         due("a kind of theirs", x.name(false, 0, 0), 'b');
@@ -997,6 +1033,76 @@ public final class LawEdgeTests {
         x.call(0, 1, 0, 0, 1);
         due("work is 1440 again, rest 0", x.run(true), 2);
         due("work is 1440 again, rest 0", x.taken(1, 1), 15);
+    }
+
+    private static void noneOfThoseAhead() {
+        by("5: The tape is THE BY-LAWS (nothing is left of those ahead, nor of a text with a FAULT)");
+        String full = "kind aaa most 5;kind bb most 5;kind cc most 5;fine ff is 3 for all;fine gg is 4 for all;"
+            + "shut 0 to 1 from 0 to 1439;rate 9 for all;rate 9 for all;work 1 rest 600;load 7;bar 0;";
+        String[][] ahead = {{full}, {full, full}, {full, full, full}, {full + "x"}, {full, full + "x"}, {full + "x", full, full + "x"}};
+        for (String[] texts : ahead) {
+            CartFellows x = new CartFellows();
+            for (String text : texts) {
+                due(text, Checks.laws(x, text), text.endsWith("x") ? NONE : 11);
+            }
+            due("others", Checks.laws(x, "kind z most 50;fine y is 1 for all;"), 2);
+            int[] all = {0, 1, 1, 0};
+            for (int what = 0; what < 4; what++) {
+                due("all " + what, x.all(what), all[what]);
+            }
+            due("the kind", x.name(false, 0, 0), 'z');
+            due("its second letter", x.name(false, 0, 1), NONE);
+            due("a second kind", x.name(false, 1, 0), NONE);
+            due("the fine", x.name(true, 0, 0), 'y');
+            due("its second letter", x.name(true, 0, 1), NONE);
+            due("a second fine", x.name(true, 1, 0), NONE);
+            x.street(0, 1, 5, 1);
+            x.stand(0);
+            due("not shut", x.shut(0, 1, 5), 0);
+            due("not shut", x.drive(0, 1, 5, 0), 10);
+            x.told(0, 3, 0, 1, 1, 1, 1, true);
+            due("no rate", x.rate(1), 0);
+            due("its fine", x.fines(3), 1);
+            due("none is barred", x.barred(3), 0);
+            x.cart(0, 1);
+            x.call(0, 0, 1, 0, 50);
+            x.call(0, 0, 1, 0, 50);
+            x.call(0, 0, 1, 0, 50);
+            due("work of 1440, no rest", x.run(true), 3);
+            due("a load of 1", x.taken(0, 6), 15);
+            due("at once again", x.taken(1, 1), 20);
+            due("at once again", x.taken(2, 1), 40);
+            due("the kind that went", Checks.laws(x, "rate 1 for is aaa;"), NONE);
+            due("is no name ahead", x.fault(0), 3);
+            due("its name is free", Checks.laws(x, "kind aaa most 5;fine bb is 5 for is aaa;"), 2);
+        }
+    }
+
+    /** Many texts behind one another: each is read as if it were the first. */
+    private static void eachAsTheFirst() {
+        by("5: The tape is THE BY-LAWS (however many have been ahead)");
+        CartFellows x = new CartFellows();
+        StringBuilder sum = new StringBuilder("kind a most 5;rate 1");
+        while (sum.length() < 980) {
+            sum.append("+1");
+        }
+        int ones = (sum.length() - 18) / 2;
+        for (int round = 0; round < 5; round++) {
+            due("a long text", Checks.laws(x, sum + " for all;"), 2);
+            x.told(0, 0, 0, 1, 1, 1, 1, true);
+            due("its rate", x.rate(1), ones);
+        }
+        for (int round = 0; round < 3; round++) {
+            due("three rates", Checks.laws(x, "kind a most 5;" + repeat("rate 9 for all;", 3)), 4);
+            x.told(0, 0, 0, 1, 1, 1, 1, true);
+            due("their sum", x.rate(1), 27);
+        }
+        for (int round = 0; round < 3; round++) {
+            due("two fines, a rate", Checks.laws(x, "kind a most 5;fine b is 1 for all;fine c is 1 for all;rate 5 for all;"), 4);
+            x.told(0, 0, 0, 1, 1, 1, 1, true);
+            due("its rate", x.rate(1), 5);
+            due("their fines", x.fines(0), 2);
+        }
     }
 
     private static void whatStays() {

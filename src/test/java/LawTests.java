@@ -365,7 +365,7 @@ public final class LawTests {
             if (text.length() > 1000) {
                 text = text.substring(0, 1000);
             }
-            if (round % 100 == 0) {
+            if (round % 5 == 0) {
                 x = new CartFellows();
             }
             int[] want = judge(text);

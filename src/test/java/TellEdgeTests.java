@@ -18,6 +18,8 @@ public final class TellEdgeTests {
         runOfNothing();
         asItWasThen();
         latestRun();
+        asManyAsCanBe();
+        fewerThanAhead();
         ofACall();
         ofNoCall();
         ofACart();
@@ -189,6 +191,85 @@ public final class TellEdgeTests {
         due("by-laws with a fault leave it", x.taken(1, 0), free);
     }
 
+    private static void asManyAsCanBe() {
+        by("25 to 32: of 24 STREETS, 6 STANDS, 16 carts, 40 CALLS");
+        CartFellows x = Checks.with("kind a most 99;load 0;rate 10 for all;");
+        for (int street = 0; street < 24; street++) {
+            x.street(street % 12, (street + 1) % 12, 1, 1);
+        }
+        for (int stand = 0; stand < 6; stand++) {
+            x.stand(2 * stand + 1);
+        }
+        for (int cart = 0; cart < 16; cart++) {
+            x.cart(2 * (cart % 6) + 1, 1);
+        }
+        for (int call = 0; call < 40; call++) {
+            x.call(30 * call, call % 12, (call + 1) % 12, 0, 1);
+        }
+        due("all are taken", x.run(true), 40);
+        int[] day = {400, 20, 1, 0, x.day(4), 16};
+        for (int what = 0; what <= 5; what++) {
+            due("day " + what, x.day(what), day[what]);
+        }
+        int ofCarts = 0;
+        int ofStreets = 0;
+        int parts = 0;
+        for (int cart = 0; cart < 16; cart++) {
+            ofCarts += x.cartOf(cart, 3);
+            parts += x.part(999999, cart);
+        }
+        for (int street = 0; street < 24; street++) {
+            ofStreets += x.wear(street);
+        }
+        due("wear of all carts", ofCarts, x.day(4));
+        due("wear of all streets", ofStreets, x.day(4));
+        due("all of a cost", parts, 999999);
+        for (int what = 0; what <= 7; what++) {
+            due("a 41st call", x.taken(40, what), NONE);
+            due("a 17th cart", x.cartOf(16, what), NONE);
+        }
+        due("a 25th street", x.wear(24), NONE);
+        due("a 17th cart", x.part(10, 16), NONE);
+        due("a 17th cart", x.gains(16), NO_GAINS);
+        due("the last call", x.taken(39, 1), 30 * 39 + (39 % 12 % 2 == 1 ? 0 : 1));
+        due("into the book", x.book(), 40);
+        // places 0 to 3 are called from once more than others: they, and 6 and 9 with two neighbours each
+        due("the plan of six", x.plan(6), 6 * 3);
+        due("its places", x.planned(), 15 + (1 << 6) + (1 << 9));
+        int gains = x.gains(15);
+        int byTurns = x.cartOf(15, 0);
+        due("free", x.run(false), 40);
+        due("the 16th cart", gains, byTurns - x.cartOf(15, 0));
+    }
+
+    private static void fewerThanAhead() {
+        by("5, 26 to 32: there was none such (in a RUN under other BY-LAWS, with fewer carts and CALLS)");
+        CartFellows x = pair("rate 7 for all;");
+        for (int i = 0; i < 5; i++) {
+            x.cart(0, 1);
+            x.call(10 * i, 0, 1, 0, 9);
+        }
+        due("five", x.run(true), 5);
+        Checks.laws(x, "kind a most 99;load 0;rate 7 for all;");
+        x.cart(0, 1);
+        x.call(0, 0, 1, 0, 1);
+        x.call(0, 0, 2, 0, 1);
+        due("one", x.run(true), 1);
+        int[] day = {7, 0, 0, 1, 11, 1};
+        for (int what = 0; what <= 5; what++) {
+            due("day " + what, x.day(what), day[what]);
+        }
+        for (int i = 1; i < 5; i++) {
+            due("call " + i, x.taken(i, 0), NONE);
+            due("cart " + i, x.cartOf(i, 1), NONE);
+            due("part of cart " + i, x.part(10, i), NONE);
+        }
+        due("wear", x.wear(0), 11);
+        due("all of it", x.part(10, 0), 10);
+        due("into the book", x.book(), 1);
+        due("acts", x.all(4), 1);
+    }
+
     private static void ofACall() {
         by("26: 0 its cart, 1 MINUTE, 2 WAIT, 3 YARDS, 4 TURN, 5 RATE, 6 the minute at which it was unloaded, 7 that at which the cart was back");
         CartFellows x = Checks.with("kind a most 99;load 2;rate yards*10+turn for all;");
@@ -301,6 +382,13 @@ public final class TellEdgeTests {
         for (int what = 0; what <= 5; what++) {
             due("what " + what, x.day(what), want[what]);
         }
+        x = pair("");
+        x.cart(0, 1);
+        x.call(0, 0, 2, 0, 1);
+        due("no waits, none taken", x.run(true) + x.day(1) + x.day(2), 0);
+        x.call(0, 0, 1, 0, 1);
+        due("a wait of 0", x.run(true) + x.day(1) + x.day(2), 1);
+        x = ran();
         x.call(20, 1, 0, 0, 1);
         x.call(20, 1, 0, 0, 1);
         x.run(true);
